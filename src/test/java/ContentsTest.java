@@ -8,6 +8,7 @@ public final class ContentsTest {
         laterWritesHideEarlierOnes();
         onlyWritesOfTheSamePlaceHide();
         whatDoesNotFitHidesNothing();
+        whatWaitsIsNotInTheDocument();
         entryRefuses();
         elementsAreInTreeOrder();
         goneElementsKeepTheirPlace();
@@ -91,7 +92,7 @@ public final class ContentsTest {
         ReplicaDocument x = new ReplicaDocument();
         x.edit(0, 0, 0, 0, 1);
         CHECKS.due("PUT in a PUT", Checks.receive(x, 0, 9, 0, 4, 0, 0, 1, 4), 1);
-        CHECKS.due("PUT in an ERASE that does not fit", Checks.receive(x, 0, 13, 4, 9, 0, 0, 1, 9), 1);
+        CHECKS.due("ERASE of a PUT", Checks.receive(x, 0, 13, 4, 9, 0, 0, 1, 9), 1);
         CHECKS.due("MAP in a PUT", Checks.receive(x, 0, 17, 1, 4, 0, 0, 1, 4), 1);
         CHECKS.due("PUT in that MAP", Checks.receive(x, 0, 21, 0, 17, 0, 3, 1, 17), 1);
         CHECKS.due("no map", x.entry(0, 4, 0, -1), -1);
@@ -101,6 +102,23 @@ public final class ContentsTest {
         CHECKS.due("depth of a MAP that does not fit", x.depth(0, 17), -1);
         CHECKS.due("depth of what is in it", x.depth(0, 21), -1);
         CHECKS.due("sum", x.sum(0), 31 * (31 * 7 + 16) + 1);
+    }
+
+    private static void whatWaitsIsNotInTheDocument() {
+        ReplicaDocument x = new ReplicaDocument();
+        x.edit(0, 2, 0, 0, 0);
+        x.edit(0, 3, 4, 0, 5);
+        int sum = x.sum(0);
+        CHECKS.due("CLEAR", Checks.receive(x, 0, 81, 5, 0, 0, 0, 2, 4, 77), 0);
+        CHECKS.due("PUT", Checks.receive(x, 0, 85, 0, 0, 0, 6, 2, 4, 77), 0);
+        CHECKS.due("INSERT", Checks.receive(x, 0, 89, 3, 4, 8, 6, 3, 4, 8, 77), 0);
+        CHECKS.due("ERASE", Checks.receive(x, 0, 93, 4, 8, 0, 0, 2, 8, 77), 0);
+        entriesAre(x, 0, 0, 0, 4);
+        elementsAre(x, 0, 4, 8);
+        CHECKS.due("depth of the list", x.depth(0, 4), 1);
+        CHECKS.due("depth of the element", x.depth(0, 8), 2);
+        CHECKS.due("depth of what waits", x.depth(0, 85), -1);
+        CHECKS.due("sum", x.sum(0), sum);
     }
 
     private static void entryRefuses() {

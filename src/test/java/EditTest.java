@@ -47,7 +47,9 @@ public final class EditTest {
     private static void beforeIsHeadsAndNamed() {
         ReplicaDocument x = new ReplicaDocument();
         x.edit(0, 2, 0, 0, 0);
+        wireIs(x, x.emit(0, 4), 4, 2, 0, 0, 0, 0);
         x.edit(0, 3, 4, 0, 1);
+        wireIs(x, x.emit(0, 8), 8, 3, 4, 0, 1, 1, 4);
         x.edit(0, 0, 0, 1, 1);
         x.edit(0, 3, 4, 8, 2);
         wireIs(x, x.emit(0, 16), 16, 3, 4, 8, 2, 3, 4, 8, 12);

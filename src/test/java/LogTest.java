@@ -75,6 +75,7 @@ public final class LogTest {
     private static void headsAreInNobodysBefore() {
         ReplicaDocument x = new ReplicaDocument();
         x.edit(0, 0, 0, 0, 1);
+        CHECKS.due("the first", x.heads(0), 1);
         x.edit(0, 0, 0, 0, 1);
         CHECKS.due("one after the other", x.heads(0), 1);
         Checks.receive(x, 0, 5, 0, 0, 0, 0, 0);
@@ -132,11 +133,13 @@ public final class LogTest {
         ReplicaDocument x = new ReplicaDocument();
         Checks.receive(x, 0, 9, 0, 0, 0, 0, 1, 5);
         CHECKS.due("what waits does not count", x.level(0, 1), true);
+        CHECKS.due("nor the other way", x.level(1, 0), true);
         Checks.receive(x, 0, 6, 0, 0, 0, 0, 0);
         Checks.receive(x, 1, 6, 0, 0, 0, 0, 0);
         CHECKS.due("nor behind what is applied", x.level(0, 1), true);
         Checks.receive(x, 1, 8, 0, 0, 0, 0, 0);
         CHECKS.due("as many held, fewer applied", x.level(0, 1), false);
+        CHECKS.due("as many held, more applied", x.level(1, 0), false);
     }
 
     private static void noReplica() {

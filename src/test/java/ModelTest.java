@@ -7,7 +7,7 @@ import java.util.TreeMap;
 public final class ModelTest {
     private static final int RUNS = 4000;
     private static final int STEPS = 160;
-    private static final int MOST_CALLS = 500;
+    private static final int MOST_CALLS = 470;
 
     private final Checks checks;
     private final Random random;
@@ -64,7 +64,7 @@ public final class ModelTest {
                 layHead(4 * (k + 1) + 1);
             }
         }
-        for (int step = 0; step < STEPS && calls < MOST_CALLS - 90; step++) {
+        for (int step = 0; step < STEPS && calls < MOST_CALLS - 130; step++) {
             act();
         }
         lookAtAll();
@@ -210,7 +210,7 @@ public final class ModelTest {
         same("log(" + r + ", " + k + ")", x.log(r, k), model.log(r, k));
         same("past(" + r + ", " + a + ", " + b + ")", x.past(r, a, b), model.past(r, a, b));
         same("heads(" + r + ")", x.heads(r), model.heads(r));
-        same("entry(" + r + ", " + a + ", " + key + ", " + k + ")", x.entry(r, a, key, k), model.entry(r, a, key, k));
+        lookAtEntry(r, below(2) == 0 ? 0 : a, key, k);
         same("element(" + r + ", " + a + ", " + k + ")", x.element(r, a, k), model.element(r, a, k));
         same("value(" + r + ", " + a + ")", x.value(r, a), model.value(r, a));
         same("depth(" + r + ", " + a + ")", x.depth(r, a), model.depth(r, a));
@@ -218,13 +218,29 @@ public final class ModelTest {
         same("level(" + r + ", " + b % 3 + ")", x.level(r, b % 3), model.level(r, b % 3));
     }
 
+    private void lookAtEntry(int r, int m, int key, int k) {
+        same("entry(" + r + ", " + m + ", " + key + ", " + k + ")", x.entry(r, m, key, k), model.entry(r, m, key, k));
+    }
+
+    private void lookAtEntries(int r, int m) {
+        for (int key = 0; key < 4; key++) {
+            for (int k = -1; k < model.entry(r, m, key, -1); k++) {
+                lookAtEntry(r, m, key, k);
+            }
+        }
+    }
+
     private void lookAtAll() {
         int r = below(3);
+        lookAtEntries(r, 0);
         for (int k = -1; k < 16; k++) {
             same("log(" + r + ", " + k + ")", x.log(r, k), model.log(r, k));
         }
         for (int i = 0; i < ids.size() && calls < MOST_CALLS; i++) {
             int id = ids.get(i);
+            if (model.entry(r, id, 0, -1) >= 0) {
+                lookAtEntries(r, id);
+            }
             same("depth(" + r + ", " + id + ")", x.depth(r, id), model.depth(r, id));
             for (int k = 0; k < model.element(r, id, -1); k++) {
                 same("element(" + r + ", " + id + ", " + k + ")", x.element(r, id, k), model.element(r, id, k));

@@ -7,6 +7,7 @@ public final class ReceiveTest {
     public static void main(String[] args) {
         theOperationTravels();
         settlingTakesTheLeastIdFirst();
+        sixteenSettleAtOnce();
         noReplicaIsNone();
         lengthsAreLookedAt();
         everyByteIsLookedAt();
@@ -47,6 +48,16 @@ public final class ReceiveTest {
             CHECKS.due("log " + k, x.log(2, k), log[k]);
         }
         CHECKS.due("20 waits still", x.held(2), 7);
+    }
+
+    private static void sixteenSettleAtOnce() {
+        ReplicaDocument x = new ReplicaDocument();
+        for (int count = 16; count > 1; count--) {
+            CHECKS.due("waits", Checks.receive(x, 0, 4 * count + 1, 0, 0, 0, 0, 1, 4 * count - 3), 0);
+        }
+        CHECKS.due("the first lets all", Checks.receive(x, 0, 5, 0, 0, 0, 0, 0), 16);
+        CHECKS.due("log(0, -1)", x.log(0, -1), 16);
+        CHECKS.due("log(0, 15)", x.log(0, 15), 65);
     }
 
     private static void noReplicaIsNone() {
