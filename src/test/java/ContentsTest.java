@@ -9,14 +9,22 @@ public final class ContentsTest {
         onlyWritesOfTheSamePlaceHide();
         whatDoesNotFitHidesNothing();
         whatWaitsIsNotInTheDocument();
+        sixteenEntriesAtOneKey();
+        clearHidesWhatItKnowsAlone();
         entryRefuses();
         elementsAreInTreeOrder();
+        fifteenElements();
+        elementsOfTwoReplicasAreByDescendingId();
         goneElementsKeepTheirPlace();
+        goneElementsAreNotCounted();
         whatDoesNotFitErasesNothing();
         elementRefuses();
         depthGoesUpToTheRoot();
         depthIsLost();
+        severalEntriesHaveADepth();
         sumOfMapsAndLists();
+        sumWraps();
+        sumLeavesOutWhatHasNoDepth();
         sumIsTheSameInEveryOrder();
         noReplica();
         CHECKS.end();
@@ -121,6 +129,36 @@ public final class ContentsTest {
         CHECKS.due("sum", x.sum(0), sum);
     }
 
+    private static void sixteenEntriesAtOneKey() {
+        ReplicaDocument x = new ReplicaDocument();
+        for (int count = 16; count > 0; count--) {
+            CHECKS.due("PUT", Checks.receive(x, 0, 4 * count + 1, 0, 0, 3, 0, 0), 1);
+        }
+        CHECKS.due("entry(0, 0, 3, -1)", x.entry(0, 0, 3, -1), 16);
+        for (int k = 0; k < 16; k++) {
+            CHECKS.due("entry " + k, x.entry(0, 0, 3, k), 4 * (k + 1) + 1);
+        }
+        CHECKS.due("entry 16", x.entry(0, 0, 3, 16), -1);
+        CHECKS.due("entry(0, 0, 2, -1)", x.entry(0, 0, 2, -1), 0);
+    }
+
+    /** "Not in the past of another": nobody knew of the other. */
+    private static void clearHidesWhatItKnowsAlone() {
+        ReplicaDocument x = new ReplicaDocument();
+        Checks.receive(x, 0, 5, 0, 0, 0, 1, 0);
+        Checks.receive(x, 0, 9, 1, 0, 0, 0, 0);
+        CHECKS.due("CLEAR that knows 5", Checks.receive(x, 0, 14, 5, 0, 0, 0, 1, 5), 1);
+        entriesAre(x, 0, 0, 0, 9);
+        CHECKS.due("CLEAR that knows nothing", Checks.receive(x, 0, 18, 5, 0, 0, 0, 0), 1);
+        entriesAre(x, 0, 0, 0, 9);
+        CHECKS.due("PUT that knows the first CLEAR", Checks.receive(x, 0, 22, 0, 0, 0, 2, 1, 14), 1);
+        entriesAre(x, 0, 0, 0, 9, 22);
+        CHECKS.due("CLEAR that knows 9 by way of another key", Checks.receive(x, 0, 26, 0, 0, 1, 2, 1, 9), 1);
+        CHECKS.due("and 26", Checks.receive(x, 0, 30, 5, 0, 0, 0, 1, 26), 1);
+        entriesAre(x, 0, 0, 0, 22);
+        entriesAre(x, 0, 0, 1, 26);
+    }
+
     private static void entryRefuses() {
         ReplicaDocument x = new ReplicaDocument();
         x.edit(0, 1, 0, 0, 0);
@@ -159,6 +197,54 @@ public final class ContentsTest {
         CHECKS.due("applied late, a lesser id", Checks.receive(x, 0, 13, 3, 4, 8, 9, 2, 4, 8), 1);
         CHECKS.due("and one at the front", Checks.receive(x, 0, 9, 3, 4, 0, 9, 1, 4), 1);
         elementsAre(x, 0, 4, 24, 9, 8, 20, 28, 13, 12, 16);
+    }
+
+    private static void fifteenElements() {
+        ReplicaDocument x = new ReplicaDocument();
+        x.edit(0, 2, 0, 0, 0);
+        for (int k = 0; k < 15; k++) {
+            CHECKS.due("elements ahead of INSERT " + k, x.element(0, 4, -1), k);
+            x.edit(0, 3, 4, k % 2 == 0 ? 0 : 4 * (k + 1), k);
+        }
+        elementsAre(x, 0, 4, 64, 56, 60, 48, 52, 40, 44, 32, 36, 24, 28, 16, 20, 8, 12);
+    }
+
+    /** "Those with slot 0 come by descending id", and the followers of one element too. */
+    private static void elementsOfTwoReplicasAreByDescendingId() {
+        ReplicaDocument x = new ReplicaDocument();
+        x.edit(0, 2, 0, 0, 0);
+        Checks.send(x, 0, 4, 1);
+        Checks.send(x, 0, 4, 2);
+        for (int r = 2; r >= 0; r--) {
+            CHECKS.due("at the front", x.edit(r, 3, 4, 0, r), 8 + r);
+            CHECKS.due("behind it", x.edit(r, 3, 4, 8 + r, r), 12 + r);
+        }
+        Checks.send(x, 1, 9, 0);
+        Checks.send(x, 2, 14, 0);
+        Checks.send(x, 2, 10, 0);
+        Checks.send(x, 1, 13, 0);
+        elementsAre(x, 0, 4, 10, 14, 9, 13, 8, 12);
+        CHECKS.due("128 and 124 behind one", Checks.receive(x, 0, 129, 3, 4, 8, 0, 2, 4, 8), 1);
+        CHECKS.due("128 and 124 behind one", Checks.receive(x, 0, 125, 3, 4, 8, 0, 2, 4, 8), 1);
+        elementsAre(x, 0, 4, 10, 14, 9, 13, 8, 129, 125, 12);
+    }
+
+    /** "It keeps its place, but isn't counted or shown." */
+    private static void goneElementsAreNotCounted() {
+        ReplicaDocument x = new ReplicaDocument();
+        x.edit(0, 2, 0, 0, 0);
+        x.edit(0, 3, 4, 0, 1);
+        CHECKS.due("elements", x.element(0, 4, -1), 1);
+        x.edit(0, 4, 8, 0, 0);
+        elementsAre(x, 0, 4);
+        CHECKS.due("its value stays", x.value(0, 8), 1);
+        CHECKS.due("erased by a second one", x.edit(0, 4, 8, 0, 0), 16);
+        elementsAre(x, 0, 4);
+        CHECKS.due("behind it", x.edit(0, 3, 4, 8, 2), 20);
+        CHECKS.due("at the front", x.edit(0, 3, 4, 0, 3), 24);
+        elementsAre(x, 0, 4, 24, 20);
+        CHECKS.due("sum", x.sum(0), 31 * (31 * 7 + 16) + 31 * (31 * 11 + 128 * 24 + 3) + 128 * 20 + 2);
+        CHECKS.due("depth behind one that is gone", x.depth(0, 20), 2);
     }
 
     private static void goneElementsKeepTheirPlace() {
@@ -259,6 +345,64 @@ public final class ContentsTest {
         CHECKS.due("depth of a CLEAR", x.depth(0, 28), -1);
         Checks.receive(x, 0, 81, 1, 0, 0, 0, 1, 77);
         CHECKS.due("depth of what waits", x.depth(0, 81), -1);
+    }
+
+    /** "Which is an entry of a map": each of several at one key is. */
+    private static void severalEntriesHaveADepth() {
+        ReplicaDocument x = new ReplicaDocument();
+        Checks.receive(x, 0, 5, 1, 0, 0, 0, 0);
+        Checks.receive(x, 0, 6, 2, 0, 0, 0, 0);
+        Checks.receive(x, 0, 9, 0, 0, 0, 7, 0);
+        Checks.receive(x, 0, 13, 0, 5, 0, 7, 1, 5);
+        Checks.receive(x, 0, 14, 3, 6, 0, 7, 1, 6);
+        CHECKS.due("depth of the MAP", x.depth(0, 5), 1);
+        CHECKS.due("depth of the LIST", x.depth(0, 6), 1);
+        CHECKS.due("depth of the PUT", x.depth(0, 9), 1);
+        CHECKS.due("depth in the MAP", x.depth(0, 13), 2);
+        CHECKS.due("depth in the LIST", x.depth(0, 14), 2);
+        CHECKS.due("PUT that knows of the MAP", Checks.receive(x, 0, 17, 0, 0, 0, 7, 1, 5), 1);
+        CHECKS.due("depth of the MAP then", x.depth(0, 5), -1);
+        CHECKS.due("depth in the MAP then", x.depth(0, 13), -1);
+        CHECKS.due("depth in the LIST then", x.depth(0, 14), 2);
+        entriesAre(x, 0, 5, 0, 13);
+        CHECKS.due("an edit in a map without depth", x.edit(0, 0, 5, 1, 8), 20);
+        entriesAre(x, 0, 5, 1, 20);
+        CHECKS.due("has none either", x.depth(0, 20), -1);
+    }
+
+    /** "Ints that wrap": the same sum taken in longs, of which the low half is kept. */
+    private static void sumWraps() {
+        ReplicaDocument x = new ReplicaDocument();
+        long s = 7;
+        int negative = 0;
+        for (int count = 1; count <= 16; count++) {
+            CHECKS.due("PUT", Checks.receive(x, 0, 4 * count + 2, 0, 0, 3, 99, 0), 1);
+            s = 31 * s + 4 * (4 * count + 2) + 3 & 0xffffffffL;
+            s = 31 * s + 99 & 0xffffffffL;
+            CHECKS.due("sum of " + count, x.sum(0), (int) s);
+            negative += x.sum(0) < 0 ? 1 : 0;
+        }
+        CHECKS.due("it went below 0", negative > 0, true);
+        x = new ReplicaDocument();
+        x.edit(0, 2, 0, 0, 0);
+        s = 11;
+        for (int count = 2; count <= 16; count++) {
+            x.edit(0, 3, 4, count == 2 ? 0 : 4 * count - 4, 99);
+            s = 31 * s + 128 * 4 * count + 99 & 0xffffffffL;
+            CHECKS.due("sum of a list of " + count, x.sum(0), (int) (31 * (31 * 7 + 16) + s));
+        }
+    }
+
+    private static void sumLeavesOutWhatHasNoDepth() {
+        ReplicaDocument x = new ReplicaDocument();
+        x.edit(0, 1, 0, 0, 0);
+        x.edit(0, 0, 4, 0, 50);
+        x.edit(0, 5, 0, 0, 0);
+        CHECKS.due("cleared", x.sum(0), 7);
+        x.edit(0, 0, 4, 1, 51);
+        CHECKS.due("a PUT into what is cleared", x.sum(0), 7);
+        CHECKS.due("which has its entries", x.entry(0, 4, 0, 0), 8);
+        CHECKS.due("both", x.entry(0, 4, 1, 0), 16);
     }
 
     private static void sumOfMapsAndLists() {

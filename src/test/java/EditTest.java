@@ -4,6 +4,7 @@ public final class EditTest {
 
     public static void main(String[] args) {
         everyKindIsIssued();
+        countIsOneWhenNoneAreApplied();
         countGoesByWhatIsApplied();
         beforeIsHeadsAndNamed();
         mapsAndListsThatDoNotFitAreTargets();
@@ -11,10 +12,15 @@ public final class EditTest {
         wrongNumbersAreNoneForEveryKind();
         slotOfAnInsertMustBeAnElementOfItsList();
         sixteenAreFull();
+        sixteenthIsIssued();
         seventhBeforeIsFull();
+        namedHeadsCountOnce();
+        namedOnesCountBesideTheHeads();
         countOverFortyIsFull();
         noneIsNamedAheadOfFull();
+        itIsAppliedAtOnce();
         editSettles();
+        sixteenthEditSettles();
         CHECKS.end();
     }
 
@@ -33,6 +39,18 @@ public final class EditTest {
         CHECKS.due("held", x.held(2), 10);
         CHECKS.due("applied at once", x.log(2, -1), 10);
         CHECKS.due("other replicas hold nothing", x.held(0) + x.held(1), 0);
+    }
+
+    /** "1 when there are none": what waits is not applied. */
+    private static void countIsOneWhenNoneAreApplied() {
+        for (int r = 0; r < 3; r++) {
+            ReplicaDocument x = new ReplicaDocument();
+            CHECKS.due("the first of " + r, x.edit(r, 0, 0, 0, 0), 4 + r);
+            x = new ReplicaDocument();
+            Checks.layWaiting(x, r, (r + 1) % 3, 15);
+            CHECKS.due("the first of " + r + " where fifteen wait", x.edit(r, 0, 0, 0, 0), 4 + r);
+            CHECKS.due("without BEFORE", x.emit(r, 4 + r), 6);
+        }
     }
 
     private static void countGoesByWhatIsApplied() {
@@ -116,7 +134,7 @@ public final class EditTest {
             CHECKS.due("ERASE of " + target, x.edit(0, 4, target == 12 ? 8 : target, 0, 0), -1);
         }
         CHECKS.due("another replica has applied none of it", x.edit(1, 0, 4, 0, 0), -1);
-        CHECKS.due("nothing changed", told.equals(Checks.tell(x)), true);
+        CHECKS.due("nothing changed", Checks.tell(x), told);
     }
 
     private static void wrongNumbersAreNoneForEveryKind() {
@@ -162,8 +180,23 @@ public final class EditTest {
         }
         String told = Checks.tell(x);
         CHECKS.due("the seventeenth", x.edit(1, 0, 0, 0, 0), -7);
-        CHECKS.due("nothing changed", told.equals(Checks.tell(x)), true);
+        CHECKS.due("nothing changed", Checks.tell(x), told);
         CHECKS.due("another replica has room", x.edit(0, 0, 0, 0, 0), 4);
+    }
+
+    private static void sixteenthIsIssued() {
+        ReplicaDocument x = new ReplicaDocument();
+        for (int count = 1; count <= 16; count++) {
+            CHECKS.due("edit " + count, x.edit(2, 0, 0, 0, 0), 4 * count + 2);
+        }
+        CHECKS.due("the seventeenth", x.edit(2, 0, 0, 0, 0), -7);
+        x = new ReplicaDocument();
+        Checks.layWaiting(x, 2, 0, 15);
+        CHECKS.due("behind fifteen that wait", x.edit(2, 0, 0, 0, 0), 6);
+        CHECKS.due("full then", x.edit(2, 0, 0, 0, 0), -7);
+        x = new ReplicaDocument();
+        Checks.layWaiting(x, 2, 0, 16);
+        CHECKS.due("sixteen that wait", x.edit(2, 0, 0, 0, 0), -7);
     }
 
     private static void seventhBeforeIsFull() {
@@ -176,7 +209,7 @@ public final class EditTest {
         CHECKS.due("heads", x.heads(0), 6);
         String told = Checks.tell(x);
         CHECKS.due("six heads and the map", x.edit(0, 0, 4, 0, 0), -7);
-        CHECKS.due("nothing changed", told.equals(Checks.tell(x)), true);
+        CHECKS.due("nothing changed", Checks.tell(x), told);
         CHECKS.due("six heads", x.edit(0, 0, 0, 0, 0), 24);
         CHECKS.due("their number", x.emit(0, 24), 12);
         for (int k = 1; k <= 6; k++) {
@@ -186,12 +219,56 @@ public final class EditTest {
         CHECKS.due("seven heads", x.edit(0, 0, 0, 0, 0), -7);
     }
 
+    /** BEFORE is a set: what is named and a head stands in it once. */
+    private static void namedHeadsCountOnce() {
+        ReplicaDocument x = new ReplicaDocument();
+        Checks.layHeads(x, 0, 1, 5);
+        CHECKS.due("a MAP as the sixth head", Checks.receive(x, 0, 26, 1, 0, 0, 0, 0), 1);
+        CHECKS.due("heads", x.heads(0), 6);
+        CHECKS.due("PUT into that", x.edit(0, 0, 26, 0, 0), 28);
+        CHECKS.due("emit", x.emit(0, 28), 12);
+        int[] bytes = {28, 0, 26, 0, 0, 6, 5, 9, 13, 17, 21, 26};
+        for (int k = 0; k < bytes.length; k++) {
+            CHECKS.due("byte " + k, x.wire(k), bytes[k]);
+        }
+    }
+
+    private static void namedOnesCountBesideTheHeads() {
+        for (int others = 3; others <= 5; others++) {
+            ReplicaDocument x = new ReplicaDocument();
+            x.edit(0, 2, 0, 0, 0);
+            x.edit(0, 3, 4, 0, 1);
+            Checks.layHeads(x, 0, 1, others);
+            CHECKS.due("list and a head as slot, " + others + " heads more", x.edit(0, 3, 4, 8, 1),
+                    others > 4 ? -7 : 4 * Math.max(3, others + 1));
+        }
+        for (int others = 2; others <= 5; others++) {
+            ReplicaDocument x = new ReplicaDocument();
+            x.edit(0, 2, 0, 0, 0);
+            x.edit(0, 3, 4, 0, 1);
+            x.edit(0, 0, 0, 1, 1);
+            Checks.layHeads(x, 0, 1, others);
+            CHECKS.due("list and slot beside a head, " + others + " heads more", x.edit(0, 3, 4, 8, 1),
+                    others > 3 ? -7 : 16);
+            CHECKS.due("the slot at the front is not named", x.edit(0, 3, 4, 0, 1),
+                    others > 4 ? -7 : 20);
+        }
+    }
+
     private static void countOverFortyIsFull() {
         ReplicaDocument x = new ReplicaDocument();
         CHECKS.due("count 39", Checks.receive(x, 0, 157, 0, 0, 0, 0, 0), 1);
         CHECKS.due("count 40", x.edit(0, 0, 0, 0, 0), 160);
         CHECKS.due("count 41", x.edit(0, 0, 0, 0, 0), -7);
         CHECKS.due("held", x.held(0), 2);
+        for (int owner = 1; owner < 3; owner++) {
+            x = new ReplicaDocument();
+            CHECKS.due("count 40 of " + owner + " waits", Checks.receive(x, 0, 160 + owner, 0, 0, 0, 0, 1, 6), 0);
+            CHECKS.due("which does not matter", x.edit(0, 0, 0, 0, 0), 4);
+            CHECKS.due("until it is applied", Checks.receive(x, 0, 6, 0, 0, 0, 0, 0), 2);
+            CHECKS.due("count 41", x.edit(0, 0, 0, 0, 0), -7);
+            CHECKS.due("another replica goes on", x.edit(1, 0, 0, 0, 0), 5);
+        }
     }
 
     private static void noneIsNamedAheadOfFull() {
@@ -204,6 +281,21 @@ public final class EditTest {
         CHECKS.due("full", x.edit(0, 0, 0, 0, 0), -7);
     }
 
+    /** "It is applied at once": ahead of whatever the settling brings. */
+    private static void itIsAppliedAtOnce() {
+        ReplicaDocument x = new ReplicaDocument();
+        CHECKS.due("waits", Checks.receive(x, 2, 9, 0, 0, 0, 2, 1, 6), 0);
+        CHECKS.due("waits, of a lesser id", Checks.receive(x, 2, 8, 0, 0, 0, 2, 1, 6), 0);
+        CHECKS.due("heads ahead", x.heads(2), 0);
+        CHECKS.due("edit", x.edit(2, 1, 0, 0, 0), 6);
+        CHECKS.due("log 0", x.log(2, 0), 6);
+        CHECKS.due("log 1", x.log(2, 1), 8);
+        CHECKS.due("log 2", x.log(2, 2), 9);
+        CHECKS.due("heads", x.heads(2), 2);
+        CHECKS.due("what waited came behind and replaced it", x.entry(2, 0, 0, -1), 2);
+        CHECKS.due("its BEFORE are the heads of then", x.emit(2, 6), 6);
+    }
+
     private static void editSettles() {
         ReplicaDocument x = new ReplicaDocument();
         CHECKS.due("waits for 4", Checks.receive(x, 0, 13, 0, 0, 0, 2, 2, 4, 10), 0);
@@ -213,5 +305,17 @@ public final class EditTest {
         CHECKS.due("log 1", x.log(0, 1), 10);
         CHECKS.due("log 2", x.log(0, 2), 13);
         CHECKS.due("the next count", x.edit(0, 0, 0, 0, 1), 16);
+    }
+
+    private static void sixteenthEditSettles() {
+        ReplicaDocument x = new ReplicaDocument();
+        for (int count = 16; count > 1; count--) {
+            int before = count == 2 ? 4 : 4 * count - 3;
+            CHECKS.due("waits", Checks.receive(x, 0, 4 * count + 1, 0, 0, 0, 0, 1, before), 0);
+        }
+        CHECKS.due("the sixteenth lets fifteen", x.edit(0, 0, 0, 0, 0), 4);
+        CHECKS.due("log", x.log(0, -1), 16);
+        CHECKS.due("log 15", x.log(0, 15), 65);
+        CHECKS.due("full", x.edit(0, 0, 0, 0, 0), -7);
     }
 }

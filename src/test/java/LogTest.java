@@ -6,9 +6,11 @@ public final class LogTest {
     public static void main(String[] args) {
         heldCountsWhatWaitsToo();
         logIsTheOrderOfApplying();
+        sixteenAreLogged();
         pastGoesThroughEveryDepth();
         pastAsksForBothApplied();
         headsAreInNobodysBefore();
+        headsAreNoneToSixteen();
         valueIsOfWhatIsApplied();
         levelLooksAtSetsAndBytes();
         levelLooksPastWhatWaits();
@@ -42,6 +44,26 @@ public final class LogTest {
         }
     }
 
+    private static void sixteenAreLogged() {
+        ReplicaDocument x = new ReplicaDocument();
+        for (int count = 1; count <= 16; count++) {
+            CHECKS.due("held ahead of edit " + count, x.held(1), count - 1);
+            CHECKS.due("log(1, -1)", x.log(1, -1), count - 1);
+            CHECKS.due("the next place", x.log(1, count - 1), -1);
+            x.edit(1, 0, 0, 0, 0);
+            CHECKS.due("the place then", x.log(1, count - 1), 4 * count + 1);
+        }
+        x.edit(1, 0, 0, 0, 0);
+        CHECKS.due("held(1)", x.held(1), 16);
+        CHECKS.due("log(1, -1) of sixteen", x.log(1, -1), 16);
+        CHECKS.due("log(1, 0)", x.log(1, 0), 5);
+        CHECKS.due("log(1, 15)", x.log(1, 15), 65);
+        CHECKS.due("log(1, 16)", x.log(1, 16), -1);
+        CHECKS.due("log(1, -2)", x.log(1, -2), -1);
+        CHECKS.due("log(0, 0)", x.log(0, 0), -1);
+        CHECKS.due("log(2, -1)", x.log(2, -1), 0);
+    }
+
     private static void pastGoesThroughEveryDepth() {
         ReplicaDocument x = new ReplicaDocument();
         for (int k = 1; k <= 16; k++) {
@@ -63,7 +85,12 @@ public final class LogTest {
         Checks.receive(x, 0, 81, 0, 0, 0, 0, 2, 4, 77);
         CHECKS.due("past(0, 4, 8)", x.past(0, 4, 8), true);
         CHECKS.due("of one that waits", x.past(0, 4, 81), false);
+        CHECKS.due("one that waits", x.past(0, 81, 8), false);
+        CHECKS.due("one that is waited for", x.past(0, 77, 81), false);
         CHECKS.due("of one that is unknown", x.past(0, 4, 12), false);
+        CHECKS.due("one that is unknown", x.past(0, 12, 8), false);
+        CHECKS.due("of the root", x.past(0, 4, 0), false);
+        CHECKS.due("itself", x.past(0, 4, 4), false);
         CHECKS.due("the root", x.past(0, 0, 8), false);
         CHECKS.due("another replica", x.past(1, 4, 8), false);
         Checks.send(x, 1, 5, 0);
@@ -87,6 +114,17 @@ public final class LogTest {
         Checks.receive(x, 0, 14, 0, 0, 0, 0, 1, 4);
         CHECKS.due("behind an old one", x.heads(0), 2);
         CHECKS.due("another replica", x.heads(1), 0);
+    }
+
+    private static void headsAreNoneToSixteen() {
+        ReplicaDocument x = new ReplicaDocument();
+        Checks.layWaiting(x, 2, 0, 2);
+        CHECKS.due("none of what waits", x.heads(2), 0);
+        CHECKS.due("all are applied", Checks.layMissing(x, 2, 0), 3);
+        CHECKS.due("two behind one", x.heads(2), 2);
+        x = new ReplicaDocument();
+        Checks.layHeads(x, 2, 0, 16);
+        CHECKS.due("sixteen", x.heads(2), 16);
     }
 
     private static void valueIsOfWhatIsApplied() {

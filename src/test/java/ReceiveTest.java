@@ -8,6 +8,8 @@ public final class ReceiveTest {
         theOperationTravels();
         settlingTakesTheLeastIdFirst();
         sixteenSettleAtOnce();
+        theWireStays();
+        againOnceItIsApplied();
         noReplicaIsNone();
         lengthsAreLookedAt();
         everyByteIsLookedAt();
@@ -58,6 +60,35 @@ public final class ReceiveTest {
         CHECKS.due("the first lets all", Checks.receive(x, 0, 5, 0, 0, 0, 0, 0), 16);
         CHECKS.due("log(0, -1)", x.log(0, -1), 16);
         CHECKS.due("log(0, 15)", x.log(0, 15), 65);
+    }
+
+    /** "Which stays there": whatever the answer. */
+    private static void theWireStays() {
+        int[][] all = {
+            {8, 0, 0, 1, 2, 0}, {12, 0, 0, 1, 2, 1, 4}, {8, 0, 0, 1, 2, 0}, {8, 0, 0, 1, 3, 0}, {9, 0, 0, 1, 3, 0},
+            {16, 0, 8, 1, 3, 0}, {16, 0, 0, 1, 3, 1, 20}, {16, 0, 0, 1, 100, 0}, {}, new int[16]};
+        int[] dues = {1, 0, -8, -3, -4, -5, -6, -2, -2, -2};
+        ReplicaDocument x = new ReplicaDocument();
+        for (int i = 0; i < all.length; i++) {
+            CHECKS.due("receive of " + Arrays.toString(all[i]), Checks.receive(x, 1, all[i]), dues[i]);
+            CHECKS.due("wire(-1)", x.wire(-1), all[i].length);
+            for (int k = 0; k < all[i].length; k++) {
+                CHECKS.due("wire(" + k + ")", x.wire(k), all[i][k]);
+            }
+        }
+    }
+
+    private static void againOnceItIsApplied() {
+        int[] bytes = {12, 0, 0, 1, 2, 1, 4};
+        ReplicaDocument x = new ReplicaDocument();
+        CHECKS.due("waits", Checks.receive(x, 1, bytes), 0);
+        CHECKS.due("again while it waits", Checks.receive(x, 1, bytes), -8);
+        CHECKS.due("4 lets it", Checks.receive(x, 1, 4, 0, 0, 0, 0, 0), 2);
+        CHECKS.due("again when it is applied", Checks.receive(x, 1, bytes), -8);
+        bytes[4] = 3;
+        CHECKS.due("clash when it is applied", Checks.receive(x, 1, bytes), -3);
+        CHECKS.due("another replica takes that", Checks.receive(x, 2, bytes), 0);
+        CHECKS.due("held(1)", x.held(1), 2);
     }
 
     private static void noReplicaIsNone() {
@@ -235,7 +266,7 @@ public final class ReceiveTest {
             Checks.lay(x, bytes);
             String told = Checks.tell(x);
             CHECKS.due("refused", x.receive(1) < 0, true);
-            CHECKS.due("nothing changed by " + Arrays.toString(bytes), told.equals(Checks.tell(x)), true);
+            CHECKS.due("nothing changed by " + Arrays.toString(bytes), Checks.tell(x), told);
             CHECKS.due("an edit comes next as ever", x.edit(1, 0, 0, 0, 3), 9);
         }
     }
