@@ -118,8 +118,11 @@ public final class EditTest {
             CHECKS.due("edit(" + r + ", ..)", x.edit(r, 0, 0, 0, 0), -1);
         }
         int[] noKinds = {-1, 6, 256, Integer.MIN_VALUE, Integer.MAX_VALUE};
+        int[] targets = {0, 4, 8, 12};
         for (int kind : noKinds) {
-            CHECKS.due("kind " + kind, x.edit(0, kind, 0, 0, 0), -1);
+            for (int target : targets) {
+                CHECKS.due("kind " + kind + " on " + target, x.edit(0, kind, target, 0, 0), -1);
+            }
         }
         int[] noMaps = {-1, -4, 1, 3, 5, 7, 8, 12, 81, 260, Integer.MIN_VALUE, Integer.MAX_VALUE};
         for (int target : noMaps) {
@@ -164,10 +167,14 @@ public final class EditTest {
         x.edit(0, 2, 0, 0, 0);
         x.edit(0, 2, 0, 1, 0);
         x.edit(0, 3, 4, 0, 0);
+        x.edit(0, 3, 8, 0, 0);
         CHECKS.due("behind an element of another list", x.edit(0, 3, 8, 12, 0), -1);
+        CHECKS.due("behind an element of a later list", x.edit(0, 3, 4, 16, 0), -1);
         CHECKS.due("behind the list itself", x.edit(0, 3, 4, 4, 0), -1);
-        CHECKS.due("behind nothing that is known", x.edit(0, 3, 4, 16, 0), -1);
-        CHECKS.due("behind its own element", x.edit(0, 3, 4, 12, 0), 16);
+        CHECKS.due("behind nothing that is known", x.edit(0, 3, 4, 20, 0), -1);
+        CHECKS.due("behind a number that is no id", x.edit(0, 3, 4, -12, 0), -1);
+        CHECKS.due("behind its own element", x.edit(0, 3, 4, 12, 0), 20);
+        CHECKS.due("behind the other's own element", x.edit(0, 3, 8, 16, 0), 24);
     }
 
     private static void sixteenAreFull() {

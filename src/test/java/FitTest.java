@@ -103,6 +103,12 @@ public final class FitTest {
         CHECKS.due("received so", Checks.receive(x, 0, 81, 3, 36, ELEMENT, 0, 2, ELEMENT, 36), 1);
         CHECKS.due("elements of that list", x.element(0, 36, -1), 0);
         CHECKS.due("elements of the other", x.element(0, LIST, -1), 1);
+        x.edit(0, 3, 36, 0, 0);
+        CHECKS.due("an element of its own", x.element(0, 36, 0), 84);
+        CHECKS.due("edit behind that, in the first list", x.edit(0, 3, LIST, 84, 0), -1);
+        CHECKS.due("received so", Checks.receive(x, 0, 89, 3, LIST, 84, 0, 2, LIST, 84), 1);
+        CHECKS.due("elements of the first list", x.element(0, LIST, -1), 1);
+        CHECKS.due("elements of the other", x.element(0, 36, -1), 1);
     }
 
     /** "Looked for among what r has applied." */

@@ -13,6 +13,7 @@ public final class LogTest {
         headsAreNoneToSixteen();
         valueIsOfWhatIsApplied();
         levelLooksAtSetsAndBytes();
+        levelLooksAtEveryByte();
         levelLooksPastWhatWaits();
         noReplica();
         CHECKS.end();
@@ -165,6 +166,31 @@ public final class LogTest {
         Checks.receive(x, 1, 10, 0, 0, 1, 8, 1, 5);
         CHECKS.due("another BEFORE", x.level(0, 1), false);
         CHECKS.due("another BEFORE, the other way", x.level(1, 0), false);
+    }
+
+    /** "Each with the same bytes": one byte that differs is enough. */
+    private static void levelLooksAtEveryByte() {
+        int[] bytes = {22, 3, 6, 0, 7, 2, 6, 10};
+        int[][] others = {
+            {18, 3, 6, 0, 7, 2, 6, 10}, {22, 0, 6, 0, 7, 2, 6, 10}, {22, 3, 10, 0, 7, 2, 6, 10},
+            {22, 3, 6, 10, 7, 2, 6, 10}, {22, 3, 6, 0, 8, 2, 6, 10}, {22, 3, 6, 0, 7, 1, 6},
+            {22, 3, 6, 0, 7, 3, 6, 10, 14}, {22, 3, 6, 0, 7, 2, 6, 14}};
+        for (int[] other : others) {
+            CHECKS.due("level with other bytes", isLevelWith(bytes, other), false);
+            CHECKS.due("the other way", isLevelWith(other, bytes), false);
+            CHECKS.due("with the same bytes", isLevelWith(other, other), true);
+        }
+    }
+
+    private static boolean isLevelWith(int[] bytes, int[] other) {
+        ReplicaDocument x = new ReplicaDocument();
+        for (int r = 0; r < 2; r++) {
+            Checks.receive(x, r, 6, 2, 0, 0, 0, 0);
+            Checks.receive(x, r, 10, 3, 6, 0, 0, 1, 6);
+            Checks.receive(x, r, 14, 3, 6, 10, 0, 2, 6, 10);
+            CHECKS.due("applied", Checks.receive(x, r, r == 0 ? bytes : other), 1);
+        }
+        return x.level(0, 1);
     }
 
     private static void levelLooksPastWhatWaits() {
