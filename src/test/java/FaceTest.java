@@ -29,6 +29,8 @@ public final class FaceTest {
             CHECKS.due(inside + " is static and not public", Modifier.isStatic(inside.getModifiers())
                     && !Modifier.isPublic(inside.getModifiers())
                     && !Modifier.isProtected(inside.getModifiers()), true);
+            namesInsideAreOthers(face, inside);
+            CHECKS.due(inside + " has at most twenty fields", inside.getDeclaredFields().length <= 20, true);
         }
         CHECKS.end();
     }
@@ -47,6 +49,14 @@ public final class FaceTest {
             boolean isPublic = Modifier.isPublic(method.getModifiers());
             CHECKS.due(method + " is public or private", isPublic || Modifier.isPrivate(method.getModifiers()), true);
             CHECKS.due(method + " has its name alone", !isPublic && names.contains(method.getName()), false);
+        }
+    }
+
+    /** "No private method bears the name of a public one": held for the classes inside too. */
+    private static void namesInsideAreOthers(Class<?> face, Class<?> inside) {
+        for (Method method : inside.getDeclaredMethods()) {
+            boolean isTaken = Arrays.stream(face.getMethods()).anyMatch(m -> m.getName().equals(method.getName()));
+            CHECKS.due(method + " has its name alone", isTaken, false);
         }
     }
 

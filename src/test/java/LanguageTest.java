@@ -1,6 +1,7 @@
 import java.io.IOException;
 import java.nio.file.Files;
 import java.nio.file.Path;
+import java.util.TreeMap;
 import java.util.regex.Matcher;
 import java.util.regex.Pattern;
 
@@ -26,6 +27,7 @@ public final class LanguageTest {
         classesStayFew(code);
         objectsAreMadeInConstructorsAlone(code);
         methodsStayShort(code);
+        callsStayFlat(code);
         CHECKS.end();
     }
 
@@ -74,5 +76,37 @@ public final class LanguageTest {
                 start = -1;
             }
         }
+    }
+
+    /** Every method's name stands once, so that a name tells who is called: at most eight deep, and no recursion. */
+    private static void callsStayFlat(String code) {
+        Matcher heading = Pattern.compile("(?m)^ {4,8}(?:\\w+ )*(\\w+)\\([^()]*\\) \\{$").matcher(code);
+        TreeMap<String, String> bodies = new TreeMap<>();
+        String name = null;
+        int start = 0;
+        while (heading.find()) {
+            if (name != null) {
+                bodies.put(name, code.substring(start, heading.start()));
+            }
+            name = heading.group(1);
+            start = heading.end();
+            CHECKS.due("a name that stands once: " + name, bodies.containsKey(name), false);
+        }
+        bodies.put(name, code.substring(start));
+        for (String method : bodies.keySet()) {
+            CHECKS.due("at most eight deep: " + method, levelsOf(bodies, method, 1) <= 8, true);
+        }
+    }
+
+    /** Goes no deeper than nine, where recursion ends too. */
+    private static int levelsOf(TreeMap<String, String> bodies, String method, int level) {
+        int deepest = level;
+        Matcher call = Pattern.compile("\\b(\\w+)\\(").matcher(bodies.get(method));
+        while (level < 9 && call.find()) {
+            if (bodies.containsKey(call.group(1))) {
+                deepest = Math.max(deepest, levelsOf(bodies, call.group(1), level + 1));
+            }
+        }
+        return deepest;
     }
 }

@@ -3,11 +3,15 @@ import java.util.List;
 import java.util.Random;
 import java.util.TreeMap;
 
-/** All promises: long runs of calls, each answered as the model answers. */
+/** All promises: runs of 512 calls, as many as an object is used for, each answered as the model answers. */
 public final class ModelTest {
     private static final int RUNS = 4000;
     private static final int STEPS = 160;
     private static final int MOST_CALLS = 470;
+    private static final int LAST_CALL = 512;
+    private static final int[] EDGES = {
+        -256, -2, -1, 0, 1, 2, 3, 4, 5, 6, 7, 15, 16, 17, 40, 99, 100, 160, 163, 255, 256,
+        Integer.MIN_VALUE, Integer.MIN_VALUE + 1, Integer.MAX_VALUE - 1, Integer.MAX_VALUE};
 
     private final Checks checks;
     private final Random random;
@@ -28,7 +32,9 @@ public final class ModelTest {
         Checks checks = new Checks("ModelTest");
         TreeMap<String, Integer> seen = new TreeMap<>();
         for (int seed = 0; seed < RUNS; seed++) {
-            new ModelTest(checks, seed, seen).run();
+            ModelTest test = new ModelTest(checks, seed, seen);
+            test.run();
+            seen.merge("ended", test.calls == LAST_CALL ? 1 : 0, Integer::sum);
         }
         String[] answers = {
             "edit -7", "edit -1", "emit -1", "receive -8", "receive -7", "receive -6", "receive -5", "receive -4",
@@ -36,6 +42,7 @@ public final class ModelTest {
         for (String answer : answers) {
             checks.due("some run met " + answer, seen.getOrDefault(answer, 0) > 20, true);
         }
+        checks.due("runs that ended with the 512th call", seen.get("ended"), RUNS);
         checks.end();
     }
 
@@ -68,6 +75,9 @@ public final class ModelTest {
             act();
         }
         lookAtAll();
+        while (calls < LAST_CALL) {
+            askAnything();
+        }
     }
 
     private void layHead(int id) {
@@ -132,6 +142,10 @@ public final class ModelTest {
         if (below(30) == 0) {
             value = below(120) - 10;
         }
+        edit(r, kind, target, slot, value);
+    }
+
+    private void edit(int r, int kind, int target, int slot, int value) {
         int want = model.edit(r, kind, target, slot, value);
         same("edit(" + r + ", " + kind + ", " + target + ", " + slot + ", " + value + ")",
                 x.edit(r, kind, target, slot, value), want);
@@ -247,5 +261,42 @@ public final class ModelTest {
             }
         }
         same("sum(" + r + ")", x.sum(r), model.sum(r));
+    }
+
+    private int anyNumber() {
+        return below(3) == 0 ? knownId() : EDGES[below(EDGES.length)];
+    }
+
+    private int anyReplica() {
+        return below(4) == 0 ? anyNumber() : below(3);
+    }
+
+    /** Any call with any numbers, up to the last call that an object is used for. */
+    private void askAnything() {
+        int r = anyReplica();
+        int a = anyNumber();
+        int b = anyNumber();
+        int c = anyNumber();
+        switch (below(16)) {
+            case 0 -> edit(r, below(4) == 0 ? a : below(6), b, c, anyNumber());
+            case 1 -> emit(r, a);
+            case 2 -> same("wire(" + a + ")", x.wire(a), model.wire(a));
+            case 3 -> alter(a, b);
+            case 4 -> cut(a);
+            case 5 -> receive(r);
+            case 6 -> same("held(" + r + ")", x.held(r), model.held(r));
+            case 7 -> same("log(" + r + ", " + a + ")", x.log(r, a), model.log(r, a));
+            case 8 -> same("past(" + r + ", " + a + ", " + b + ")", x.past(r, a, b), model.past(r, a, b));
+            case 9 -> same("heads(" + r + ")", x.heads(r), model.heads(r));
+            case 10 -> lookAtEntry(r, a, b, c);
+            case 11 -> same("element(" + r + ", " + a + ", " + b + ")", x.element(r, a, b), model.element(r, a, b));
+            case 12 -> same("value(" + r + ", " + a + ")", x.value(r, a), model.value(r, a));
+            case 13 -> same("depth(" + r + ", " + a + ")", x.depth(r, a), model.depth(r, a));
+            case 14 -> same("sum(" + r + ")", x.sum(r), model.sum(r));
+            default -> {
+                int other = anyReplica();
+                same("level(" + r + ", " + other + ")", x.level(r, other), model.level(r, other));
+            }
+        }
     }
 }
